@@ -658,7 +658,7 @@ public final class FacadeShow {
         }
 
         private static boolean isCell(int column, int row) {
-            return isColumn(column) && row >= 0 && row < ROWS;
+            return column >= 0 && column < COLUMNS && row >= 0 && row < ROWS;
         }
 
         private void put(int column, int row, int what) {

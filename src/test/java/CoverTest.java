@@ -7,6 +7,7 @@ final class CoverTest {
         coveredNeedsSharpness();
         coveredSparesWhatGivesNothing();
         coveredLeavesFailedOut();
+        coveredAddsNothingOfFailed();
         coveredRefuses();
         leastIsOfNone();
         leastIsOfFewest();
@@ -14,6 +15,7 @@ final class CoverTest {
         leastLeavesFailedOut();
         leastLeavesUnsharpOut();
         leastOfAllTen();
+        leastAnewLooksAnew();
         bearsEachFailure();
         bearsOnlyWhatCovers();
         bearsRefuses();
@@ -97,6 +99,10 @@ final class CoverTest {
         dark.aim(1, 0, 0);
         CHECK.due("16 rounded to nothing", dark.gives(1, 0), 0);
         CHECK.due("16 unsharp, but too dark", dark.covered(3), 1);
+        dark.projector(4, 11, 3, 0, 1);
+        dark.aim(2, 0, 0);
+        CHECK.due("16 just some", dark.gives(2, 0), 1);
+        CHECK.due("16 unsharp, not too dark", dark.covered(5), 0);
         FacadeShow glass = new FacadeShow();
         glass.projector(0, 10, 9999, 0, 10);
         glass.aim(0, 0, 0);
@@ -117,6 +123,15 @@ final class CoverTest {
         CHECK.due("16 unsharp and failed", x.covered(7), 1);
         x.fail(0, false);
         CHECK.due("16 mended", x.covered(1), 1);
+    }
+
+    private static void coveredAddsNothingOfFailed() {
+        FacadeShow x = onNought(99, 1);
+        CHECK.due("16 both", x.covered(3), 1);
+        x.fail(1, true);
+        CHECK.due("16 the lesser failed", x.covered(3), 0);
+        x.fail(0, true);
+        CHECK.due("16 both failed", x.covered(3), 0);
     }
 
     private static void coveredRefuses() {
@@ -215,6 +230,22 @@ final class CoverTest {
         least("17 the last failed", x, FacadeShow.NONE);
         x.need(0x1ff, 100);
         least("17 without the last", x, 0x1ff);
+    }
+
+    private static void leastAnewLooksAnew() {
+        FacadeShow x = onNought(100, 100);
+        x.need(1, 200);
+        CHECK.due("18 two", x.leastAnew(), 2);
+        x.need(1, 100);
+        CHECK.due("18 one", x.leastAnew(), 1);
+        x.cell(0, 5, FacadeShow.TREE);
+        CHECK.due("18 one beside a tree", x.leastAnew(), 1);
+        x.fail(1, true);
+        CHECK.due("18 the other failed", x.leastAnew(), FacadeShow.NONE);
+        x.cell(0, 5, FacadeShow.EMPTY);
+        CHECK.due("18 no tree", x.leastAnew(), 1);
+        x.need(0, 100);
+        CHECK.due("18 no need", x.leastAnew(), 0);
     }
 
     private static void bearsEachFailure() {

@@ -75,6 +75,28 @@ final class ModelTest {
         return some(0, Math.max(model.count - 1, 0));
     }
 
+    /** Mostly columns that some set covers well by now, so that there are least sets of several projectors. */
+    private int someColumns() {
+        int chance = random.nextInt(6);
+        if (chance == 0) {
+            return some(0, 65535);
+        }
+        int columns = 0;
+        for (int tries = 0; tries < chance; tries++) {
+            columns |= model.covered(random.nextInt(1 << model.count));
+        }
+        return columns & (random.nextInt(65536) | 1 << random.nextInt(16));
+    }
+
+    /** A column, mostly one of those that the projector is aimed at. */
+    private int someColumnOf(int p) {
+        if (!isProjector(p) || model.from[p] > model.to[p] || random.nextInt(4) == 0) {
+            return some(0, 15);
+        }
+        int shift = model.wind > 3 ? model.wind - 3 : 0;
+        return some(model.from[p] + shift, model.to[p] + shift);
+    }
+
     private int someSet() {
         return some(0, (1 << model.count) - 1);
     }
@@ -91,8 +113,7 @@ final class ModelTest {
         switch (kind) {
             case 0: return column(some(0, 15), some(0, 2), random.nextInt(6) == 0 ? 2 : some(0, 2));
             case 1: case 2: return cell(some(0, 15), some(3, 11), random.nextInt(3) == 0 ? 0 : some(0, 3));
-            case 3: return need(random.nextInt(3) == 0 ? some(0, 65535) : 1 << random.nextInt(16) | 1 << random.nextInt(16),
-                    random.nextInt(5) == 0 ? some(1, 9999) : some(1, 300));
+            case 3: return need(someColumns(), random.nextInt(5) == 0 ? some(1, 9999) : some(1, 300));
             case 4: case 5: return projector(some(0, 15), some(3, 11),
                     random.nextInt(2) == 0 ? some(1, 9999) : some(1, 400), some(0, 2));
             default: return aim(someProjector(), some(0, 15), some(0, 7));
@@ -236,10 +257,10 @@ final class ModelTest {
     private long[] ask(int kind) {
         switch (kind) {
             case 16: return through(someProjector(), some(0, 15), some(0, 11));
-            case 17: return gives(someProjector(), some(0, 15));
+            case 17: return givesSomewhere(someProjector());
             case 18: return isSharp(someProjector(), some(0, 15));
             case 19: return light(some(0, 15));
-            case 20: return blended(someProjector(), some(0, 15));
+            case 20: return blendedSomewhere(someProjector());
             case 21: return covered(someSet());
             case 22: return least();
             case 23: return leastAnew();
@@ -252,6 +273,14 @@ final class ModelTest {
         told.append(" through");
         long want = !isProjector(p) || !in(c, 0, 15) || !in(r, 0, 11) ? NO_SUCH : model.through(p, c, r);
         return new long[] {outcome(() -> show.through(p, c, r)), want};
+    }
+
+    private long[] givesSomewhere(int p) {
+        return gives(p, someColumnOf(p));
+    }
+
+    private long[] blendedSomewhere(int p) {
+        return blended(p, someColumnOf(p));
     }
 
     private long[] gives(int p, int c) {

@@ -4,6 +4,7 @@ final class ShowTest {
 
     public static void main(String[] args) {
         breachesAreRays();
+        breachesAtTheEnds();
         breachesNeedFreeRays();
         curfewHasItsMinutes();
         curfewComesEachDay();
@@ -18,6 +19,7 @@ final class ShowTest {
         showRefuses();
         passCountsBreaches();
         passAddsEnergy();
+        passAddsEnergyOfEachPhase();
         passGoesByFrames();
         passEnds();
         passRefuses();
@@ -58,6 +60,25 @@ final class ShowTest {
         CHECK.due("20 shifted", x.breaches(), 2);
         x.curfew(0, 1440);
         CHECK.due("20 without the curfew", x.breaches(), 2);
+    }
+
+    private static void breachesAtTheEnds() {
+        FacadeShow x = new FacadeShow();
+        x.projector(0, 11, 1, 0, 11);
+        x.projector(15, 4, 1, 0, 4);
+        x.aim(0, 0, 7);
+        x.aim(1, 8, 15);
+        x.turn(0, true);
+        x.turn(1, true);
+        x.cell(0, 10, FacadeShow.NEST);
+        CHECK.due("20 rays that begin alike", x.breaches(), 6);
+        x.cell(0, 10, FacadeShow.EMPTY);
+        x.cell(0, 3, FacadeShow.NEST);
+        CHECK.due("20 to column 0", x.breaches(), 1);
+        x.cell(15, 3, FacadeShow.PEOPLE);
+        CHECK.due("20 to column 15 and two more", x.breaches(), 4);
+        x.aim(1, 15, 15);
+        CHECK.due("20 to column 15", x.breaches(), 2);
     }
 
     private static void breachesNeedFreeRays() {
@@ -280,6 +301,22 @@ final class ShowTest {
         x.turn(0, false);
         x.pass(1);
         CHECK.due("27 without one", x.show(3), 99990L * 99360 + 89991);
+    }
+
+    private static void passAddsEnergyOfEachPhase() {
+        FacadeShow x = new FacadeShow();
+        x.projector(0, 3, 1, 0, 3);
+        x.projector(1, 3, 10, 1, 3);
+        x.projector(2, 3, 100, 2, 3);
+        x.projector(3, 3, 1000, 1, 3);
+        x.turn(0, true);
+        x.turn(1, true);
+        x.turn(2, true);
+        x.pass(2);
+        CHECK.due("27 of three phases", x.show(3), 222);
+        x.turn(0, false);
+        x.pass(1);
+        CHECK.due("27 of two phases", x.show(3), 332);
     }
 
     private static void passGoesByFrames() {
