@@ -504,10 +504,10 @@ public final class FacadeShow {
 
     private int crossing(Projector source, int column, int row) {
         int end = square.reliefOf(column);
-        if (row <= end || row >= source.row) {
+        int rows = source.row - end;
+        if (rows < 1 || row <= end || row >= source.row) {
             return NONE;
         }
-        int rows = source.row - end;
         int rowsGone = source.row - row;
         int placeTimesRows = source.column * rows + (column - source.column) * rowsGone;
         // half a column more before it is rounded down: so a half goes to the greater number

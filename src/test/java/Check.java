@@ -5,7 +5,13 @@ final class Check {
         long answer();
     }
 
+    /** A call with an argument that is tried with several numbers. */
+    interface Ranged {
+        long answer(int argument);
+    }
+
     private final String test;
+    private String about = "";
     private int wrong = 0;
     private int checked = 0;
 
@@ -13,11 +19,19 @@ final class Check {
         this.test = test;
     }
 
+    /** The sentence of the document that what comes next is about. */
+    void about(String sentence) {
+        about = sentence;
+    }
+
+    int checked() {
+        return checked;
+    }
+
     void due(String what, long got, long want) {
         checked++;
         if (got != want) {
-            wrong++;
-            System.out.println(test + ": " + what + " answered " + got + ", due is " + want);
+            tell(what + " answered " + got + ", due is " + want);
         }
     }
 
@@ -41,20 +55,45 @@ final class Check {
         throwing(what, IllegalStateException.class, call);
     }
 
-    private void throwing(String what, Class<?> due, Call call) {
-        checked++;
-        String got;
-        try {
-            got = "answered " + call.answer();
-        } catch (RuntimeException thrown) {
-            // the very class: the machine's own exceptions are classes below those of the document
-            if (thrown.getClass() == due) {
-                return;
-            }
-            got = "threw " + thrown.getClass().getName();
+    /** An argument from low to high is taken, each other one is refused as no such thing. */
+    void numbers(String what, int low, int high, Ranged call) {
+        range(what, IndexOutOfBoundsException.class, low, high, call);
+    }
+
+    /** An argument from low to high is taken, each other one is refused as out of range. */
+    void range(String what, int low, int high, Ranged call) {
+        range(what, IllegalArgumentException.class, low, high, call);
+    }
+
+    private void range(String what, Class<?> due, int low, int high, Ranged call) {
+        int[] within = {low, high, low + (high - low) / 2};
+        for (int number : within) {
+            throwing(what + " " + number, null, () -> call.answer(number));
         }
+        int[] beyond = {low - 1, high + 1, Integer.MIN_VALUE, Integer.MAX_VALUE};
+        for (int number : beyond) {
+            throwing(what + " " + number, due, () -> call.answer(number));
+        }
+    }
+
+    /** The class of what is thrown is the very one: the machine's own exceptions are classes below the document's. */
+    void throwing(String what, Class<?> due, Call call) {
+        checked++;
+        Class<?> got = null;
+        try {
+            call.answer();
+        } catch (RuntimeException thrown) {
+            got = thrown.getClass();
+        }
+        if (got != due) {
+            tell(what + (got == null ? " threw nothing" : " threw " + got.getName())
+                    + ", due is " + (due == null ? "nothing" : due.getName()));
+        }
+    }
+
+    private void tell(String what) {
         wrong++;
-        System.out.println(test + ": " + what + " " + got + ", due is " + due.getName());
+        System.out.println(test + ": " + (about.isEmpty() ? "" : "[" + about + "] ") + what);
     }
 
     void end() {
