@@ -1,16 +1,12 @@
-import java.io.IOException;
 import java.lang.reflect.Constructor;
 import java.lang.reflect.Field;
 import java.lang.reflect.Method;
 import java.lang.reflect.Modifier;
-import java.nio.charset.StandardCharsets;
-import java.nio.file.Files;
-import java.nio.file.Path;
 import java.util.ArrayList;
 import java.util.List;
 import java.util.TreeSet;
 
-/** The public face as the document writes it, and those rules of LANGUAGE.md that a look at the source can tell. */
+/** The public face as the document writes it, and nothing else that is open or static. */
 final class FaceTest {
     private static final Check CHECK = new Check("FaceTest");
     private static final String NO_SUCH = "IndexOutOfBoundsException";
@@ -46,13 +42,12 @@ final class FaceTest {
         "int pass(int) " + BAD_ARGUMENT + " " + BAD_STATE,
     };
 
-    public static void main(String[] args) throws IOException {
+    public static void main(String[] args) {
         constantsAreTheDocuments();
         classIsPublicAndFinal();
         methodsAreTheDocuments();
         nothingElseIsOpen();
         nothingStaticChanges();
-        sourceKeepsToTheLanguage();
         CHECK.end();
     }
 
@@ -152,24 +147,5 @@ final class FaceTest {
         List<Class<?>> all = new ArrayList<>(List.of(FacadeShow.class.getDeclaredClasses()));
         all.add(FacadeShow.class);
         return all;
-    }
-
-    private static void sourceKeepsToTheLanguage() throws IOException {
-        Path file = Path.of("src/main/java/FacadeShow.java");
-        String source = new String(Files.readAllBytes(file), StandardCharsets.ISO_8859_1);
-        String code = source.replaceAll("(?s)/\\*.*?\\*/", " ").replaceAll("//[^\n]*", " ")
-                .replaceAll("\"[^\"]*\"", "TEXT");
-        CHECK.isTrue("signs 1 to 127", source.chars().allMatch(sign -> sign > 0 && sign < 128));
-        String[] ruledOut = {"package", "import", "try", "catch", "finally", "synchronized", "assert", "float",
-            "double", "System", "Object", "Random", "Thread", "volatile", "transient", "native", "var"};
-        for (String word : ruledOut) {
-            CHECK.isTrue("no " + word, !code.matches("(?s).*\\b" + word + "\\b.*"));
-        }
-        CHECK.isTrue("no lambda, no method reference", !code.contains("->") && !code.contains("::"));
-        CHECK.isTrue("only these exceptions", !code.replaceAll(
-                "throw new (" + NO_SUCH + "|" + BAD_ARGUMENT + "|" + BAD_STATE + ")\\(TEXT\\);", "")
-                .matches("(?s).*\\bthrow\\b.*"));
-        CHECK.isTrue("no library but Integer.bitCount", !code.replace("Integer.bitCount(", "")
-                .matches("(?s).*\\b(Integer|Math|Long|Arrays|List|String)\\b.*"));
     }
 }

@@ -10,7 +10,7 @@ final class FrontTest {
                 FrontTest::newFrontIsFlatStone, FrontTest::newLevelIsHundred);
         quotes.test("2 Tells of a column.", FrontTest::columnIsToldAnew);
         quotes.test("2 - `relief`", FrontTest::columnHasRelief, FrontTest::reliefIsStoneBelow);
-        quotes.test("2 - `surface`", FrontTest::columnHasSurface);
+        quotes.test("2 - `surface`", FrontTest::columnHasSurface, FrontTest::eachReliefHasEachSurface);
         quotes.test("2 Throws `IndexOutOfBounds", FrontTest::columnRefusesColumns);
         quotes.test("2 Throws `IllegalArgument", FrontTest::columnRefusesReliefAndSurface);
         quotes.test("3 Tells what is in a cell.", FrontTest::cellHoldsRays);
@@ -98,6 +98,19 @@ final class FrontTest {
         CHECK.due("glass", x.gives(0, 5), 0);
         x.column(5, 0, FacadeShow.STONE);
         CHECK.due("stone", x.gives(0, 5), 100);
+    }
+
+    private static void eachReliefHasEachSurface() {
+        FacadeShow x = new FacadeShow();
+        x.projector(5, 10, 167, 0, 10);
+        x.aim(0, 5, 5);
+        int[][] lights = {{100, 66, 0}, {123, 82, 0}, {156, 104, 0}};
+        for (int relief = 0; relief <= 2; relief++) {
+            for (int surface = FacadeShow.STONE; surface <= FacadeShow.GLASS; surface++) {
+                x.column(5, relief, surface);
+                CHECK.due("relief " + relief + ", surface " + surface, x.gives(0, 5), lights[relief][surface]);
+            }
+        }
     }
 
     private static void columnHasRelief() {

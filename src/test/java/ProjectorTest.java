@@ -59,7 +59,8 @@ final class ProjectorTest {
         quotes.test("12 Returns the light; 0 if it does not cover it, or the ray is blocked.",
                 ProjectorTest::givesNothingBesideItsAim, ProjectorTest::givesNothingThroughMast);
         quotes.test("12 Throws `IndexOutOfBounds", ProjectorTest::givesRefuses);
-        quotes.test("13 Tells whether a projector is sharp", ProjectorTest::sharpnessIsOneAround);
+        quotes.test("13 Tells whether a projector is sharp", ProjectorTest::sharpnessIsOneAround,
+                ProjectorTest::sharpnessIsOfThePlacesAlone);
         quotes.test("13 Throws `IndexOutOfBounds", ProjectorTest::sharpnessRefuses);
         quotes.test("14 Returns the light of a column now.", ProjectorTest::lightAddsUp);
         quotes.test("14 Throws `IndexOutOfBounds", ProjectorTest::lightRefuses);
@@ -611,6 +612,24 @@ final class ProjectorTest {
                 CHECK.due("aside, focus " + focus + " over " + rows, x.isSharp(0, 15), due);
             }
         }
+    }
+
+    private static void sharpnessIsOfThePlacesAlone() {
+        FacadeShow x = new FacadeShow();
+        x.projector(4, 8, 100, 0, 8);
+        x.aim(0, 3, 5);
+        CHECK.due("off", x.isSharp(0, 4), true);
+        x.turn(0, true);
+        CHECK.due("on", x.isSharp(0, 4), true);
+        x.fail(0, true);
+        CHECK.due("failed", x.isSharp(0, 4), true);
+        x.wind(8);
+        CHECK.due("no more covered", x.isSharp(0, 4), true);
+        CHECK.due("covered now", x.isSharp(0, 9), true);
+        x.cell(4, 4, FacadeShow.TREE);
+        CHECK.due("blocked", x.isSharp(0, 4), true);
+        x.column(4, 2, FacadeShow.STONE);
+        CHECK.due("too near", x.isSharp(0, 4), false);
     }
 
     private static void sharpnessRefuses() {

@@ -488,6 +488,11 @@ final class TermsTest {
         CHECK.due("just beyond", columnsOf(x, 0), 0);
         x.wind(3);
         CHECK.due("back", columnsOf(x, 0), 0x0800);
+        FacadeShow last = straight(15);
+        last.cell(15, 9, FacadeShow.PEOPLE);
+        CHECK.due("a ray to the last", last.breaches(), 1);
+        last.wind(4);
+        CHECK.due("no ray to what is lost", last.breaches(), 0);
     }
 
     private static void windShiftsAllProjectors() {
